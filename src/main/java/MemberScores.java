@@ -215,6 +215,7 @@ public final class MemberScores {
             workAndKeep(asked, slot);
         }
         switch (asked.faults[slot]) {
+            // the document names these, though they are not in the list of LANGUAGE.md's rule 6
             case EMPTY:
                 throw new NullPointerException();
             case CAST:
@@ -573,7 +574,10 @@ public final class MemberScores {
             }
         }
 
-        /** Goes at most SIZE_MOST deep: expression() refuses a larger SIZE, and each level adds 1 to it. */
+        /**
+         * The number names an EXPRESSION, and so do those of its parts: rule() and expression() refuse others. Goes at
+         * most SIZE_MOST deep: expression() refuses a larger SIZE, and each level adds 1 to it.
+         */
         private int value(int number) {
             Expression e = expressions.get(number);
             int parts = PARTS[e.kind];
@@ -594,8 +598,12 @@ public final class MemberScores {
             return e.kind >= A && e.kind <= NEXT ? look(e.kind, a) : reckon(e, a, b);
         }
 
+        private boolean isThere(int object) {
+            return object >= 0 && object < members.size();
+        }
+
         private int look(int kind, int object) {
-            if (object < 0 || object >= members.size()) {
+            if (!isThere(object)) {
                 return end(EMPTY);
             }
             Member member = members.get(object);
@@ -615,7 +623,7 @@ public final class MemberScores {
         }
 
         private int lookInRow(int kind, int object, int place) {
-            if (object < 0 || object >= members.size()) {
+            if (!isThere(object)) {
                 return end(EMPTY);
             }
             Member member = members.get(object);
@@ -658,7 +666,7 @@ public final class MemberScores {
                 case SAME:
                     return a == b ? 1 : 0;
                 case IS:
-                    return a != NONE && members.get(a).sort >= e.b ? 1 : 0;
+                    return isThere(a) && members.get(a).sort >= e.b ? 1 : 0;
                 default:
                     return nextCount();
             }

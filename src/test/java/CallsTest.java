@@ -128,8 +128,9 @@ public final class CallsTest {
         Check.due("until the FAULT", m.reads(0, 14, 15, 15), 6);
         m.set(15, 1, 9);
         m.unlike(0);
-        m.full(0 * 2 + (m.turn(0, false) - 1));
-        Check.due("what is not kept doesn't show", m.reads(0, 0, 1, 1), 0);
+        Check.dueThrow("full", IllegalStateException.class, () -> m.full(0));
+        Check.due("what is not kept doesn't show", m.reads(0, 14, 15, 15), 6);
+        Check.due("nor of what never was worked", m.reads(0, 0, 1, 0), 0);
     }
 
     private static void promise15Unlike() {
@@ -145,7 +146,7 @@ public final class CallsTest {
         m.rule(0, 0, 1, m.expression(11, two, odd, 0));
         m.rule(0, 0, 1, m.expression(11, two, even, 0));
         m.rule(0, 0, 1, m.expression(10, m.expression(3, x, 0, 0), c, 0));
-        Check.due("UNKNOWN", m.unlike(5), UNKNOWN);
+        Check.due("UNKNOWN", m.unlike(7), UNKNOWN);
         Check.due("UNKNOWN below", m.unlike(-1), UNKNOWN);
         Check.due("alike", m.unlike(0), 0);
         Check.due("unlike MARKS", m.unlike(1), 3);
@@ -156,6 +157,11 @@ public final class CallsTest {
         m.turn(1, false);
         Check.due("off", m.unlike(1), 3);
         Check.due("FAULTS of all of it", m.about(8), 3 + 6);
+        int y = m.expression(2, 0, 0, 0);
+        m.rule(4, 0, 1, m.expression(14, x, y, 0));
+        m.rule(3, 0, 1, m.expression(3, y, 0, 0));
+        Check.due("X and Y are the same both times", m.unlike(5), 0);
+        Check.due("A of Y both times", m.unlike(6), 0);
     }
 
     private static void promise15KeepsNothing() {
@@ -230,14 +236,13 @@ public final class CallsTest {
         Check.due("FAULTS", m.about(8), 1920);
         Check.due("COUNTS", m.about(6), 1920);
         int x = m.expression(1, 0, 0, 0);
-        m.rule(0, 1, 1, m.expression(11, 1, m.expression(3, x, 0, 0), 0));
-        m.turn(0, false);
+        int c = m.expression(17, 0, 0, 0);
+        m.rule(0, 1, 1, m.expression(11, c, m.expression(3, x, 0, 0), 0));
         for (int i = 0; i < 5; i++) {
-            m.unlike(1 * m.about(8) / m.about(8));
+            m.unlike(1);
         }
         Check.due("no more than 2000 FAULTS", m.about(8), 2000);
         Check.due("COUNT stays", m.about(6), 2000);
-        m.turn(0, true);
         Check.dueThrow("WORN", IllegalStateException.class, () -> m.mark(0, 3, 2));
         Check.due("nothing is READ", m.reads(1, 0, NONE, 0), 0);
         Check.due("WORN is alike", m.unlike(0), 0);
@@ -280,24 +285,22 @@ public final class CallsTest {
         for (int i = 0; i < 4; i++) {
             m.unlike(0);
         }
-        int zero = 0;
+        int zero = m.expression(0, 0, 0, 0);
         m.rule(0, 1, 1, m.expression(12, zero, zero, 0));
-        m.turn(0, false);
         m.unlike(1);
         m.unlike(1);
         Check.due("1984 FAULTS", m.about(8), 1984);
-        m.mark(1 - m.turn(1, false) + 2 - m.turn(0, true) * 0 > 5 ? 0 : zeroRule(m), 0, NONE);
-        m.turn(1, true);
-        m.turn(0, false);
         Check.due("15 ZERO more", fifteen(m), 15);
         Check.due("1999 FAULTS", m.about(8), 1999);
         Check.due("ZERO, then WORN, tell unlike", m.unlike(1), 1);
         Check.due("2000 FAULTS", m.about(8), 2000);
-    }
-
-    /** A RULE that can't fail. */
-    private static int zeroRule(MemberScores m) {
-        return m.rule(0, 2, 1, 0);
+        m.rule(0, 2, 1, zero);
+        m.turn(0, false);
+        Check.due("a RULE that can't fail is WORN, too; the first is", m.failed(3), 3);
+        m.turn(1, false);
+        Check.due("its RULE", m.failed(0), 2);
+        Check.due("its FAULT", m.failed(3), 4);
+        Check.due("all of it SETTLED", m.about(4), 0);
     }
 
     private static int fifteen(MemberScores m) {

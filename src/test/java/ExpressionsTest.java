@@ -68,6 +68,18 @@ public final class ExpressionsTest {
         Check.due("14", m.expression(14, 1, 2, 99), 9);
         Check.due("16", m.expression(16, 1, 0, 99), 10);
         Check.due("17", m.expression(17, 99, 99, 99), 11);
+        m.object(2);
+        m.row(0, 1);
+        m.link(0, 0);
+        m.set(0, 0, 6);
+        m.set(0, 1, 7);
+        Check.due("A of NEXT", m.expression(3, 5, 99, -9), 12);
+        int[] made = {3, 4, 7, 10, 11, 12};
+        int[] want = {6, 7, 1, 1, 0, 6};
+        for (int i = 0; i < made.length; i++) {
+            m.rule(0, 0, 1, made[i]);
+            Check.due("what is not looked at is not worked, " + made[i], m.mark(i, 0, NONE), want[i]);
+        }
     }
 
     private static void promise7Types() {
@@ -114,14 +126,13 @@ public final class ExpressionsTest {
         Check.due("SIZE 59", size59, 5);
         Check.due("SIZE 61", m.expression(8, size59, n, 0), ROOM);
         Check.due("SIZE 59 + 4 + 1", m.expression(8, two, size59, 0), ROOM);
-        int size44 = m.expression(15, size40, n, n) + 0;
-        Check.due("SIZE 43", size44, 6);
-        int size58 = m.expression(15, size54, n, n);
-        Check.due("SIZE 57", size58, 7);
-        Check.due("SIZE 60", m.expression(15, size58, n, n), 8);
-        Check.due("SIZE 62", m.expression(8, 8, n, 0), ROOM);
-        Check.due("SIZE 72 by c", m.expression(15, n, n, 8), ROOM);
-        Check.due("about(1)", m.about(1), 9);
+        int size57 = m.expression(15, size54, n, n);
+        Check.due("SIZE 57", size57, 6);
+        int size60 = m.expression(15, size57, n, n);
+        Check.due("SIZE 60", size60, 7);
+        Check.due("SIZE 62", m.expression(8, size60, n, 0), ROOM);
+        Check.due("SIZE 63 by c", m.expression(15, n, n, size60), ROOM);
+        Check.due("about(1)", m.about(1), 8);
     }
 
     private static void promise7Depth() {
@@ -306,6 +317,8 @@ public final class ExpressionsTest {
         Check.due("ROW is READ where there is no such place", m.reads(0, 0, NONE, 0), 9);
         m.row(0, 8);
         m.item(0, 7, 70);
+        m.item(0, 0, 50);
+        Check.due("the first place", m.mark(0, 0, NONE), 50);
         m.set(0, 0, 7);
         Check.due("the last place", m.mark(0, 0, NONE), 70);
         m.set(0, 0, 8);
