@@ -343,7 +343,7 @@ public final class ExpressionsTest {
         m.rule(0, 0, 1, m.expression(8, nextA, divides, 0));
         m.rule(0, 0, 1, m.expression(8, divides, nextA, 0));
         m.rule(0, 0, 1, m.expression(11, nextA, zero, 0));
-        Check.dueThrow("the place is worked before none is looked at", ArithmeticException.class, () -> m.mark(0, 0, NONE));
+        Check.dueThrow("the place is worked before X is looked at", ArithmeticException.class, () -> m.mark(0, 0, NONE));
         Check.dueThrow("the place is worked before the sort", ArithmeticException.class, () -> m.mark(1, 0, NONE));
         Check.dueThrow("left first", ClassCastException.class, () -> m.mark(2, 0, NONE));
         Check.dueThrow("right after it", ArithmeticException.class, () -> m.mark(3, 0, NONE));
