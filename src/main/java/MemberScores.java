@@ -215,7 +215,7 @@ public final class MemberScores {
             workAndKeep(asked, slot);
         }
         switch (asked.faults[slot]) {
-            // the document names these, though they are not in the list of LANGUAGE.md's rule 6
+            // rule 6 of LANGUAGE.md lists others, but has a call throw exactly what the document says
             case EMPTY:
                 throw new NullPointerException();
             case CAST:

@@ -18,6 +18,19 @@ final class Check {
         }
     }
 
+    /** What the machine throws by itself has a text, or is a subclass; what the program throws has none. */
+    static boolean isOfTheMachine(RuntimeException e) {
+        return e.getMessage() != null;
+    }
+
+    static void same(String call, String got, String want) {
+        asked++;
+        if (!got.equals(want)) {
+            wrong++;
+            System.out.println(call + " answered " + got + ", due is " + want);
+        }
+    }
+
     /** The very class is due: a subclass tells of the machine's own throwing. */
     static void dueThrow(String call, Class<? extends RuntimeException> want, Call asks) {
         asked++;
@@ -25,10 +38,10 @@ final class Check {
         try {
             got = "" + asks.ask();
         } catch (RuntimeException e) {
-            if (e.getClass() == want) {
+            if (e.getClass() == want && !isOfTheMachine(e)) {
                 return;
             }
-            got = e.getClass().getName();
+            got = e.toString();
         }
         wrong++;
         System.out.println(call + " answered " + got + ", due is throws." + want.getSimpleName());

@@ -8,7 +8,7 @@ public final class ModelTest {
     /** In some runs nothing is asked that is refused, so that they come further. */
     private final int wrongOutOf;
     private final int[] kinds = new int[80];
-    private int expressions, objects, rules;
+    private int expressions, objects, rules, calls;
     private long state;
     private String asked = "";
 
@@ -21,8 +21,8 @@ public final class ModelTest {
     public static void main(String[] args) {
         for (int run = 0; run < RUNS && Check.wrong() == 0; run++) {
             ModelTest test = new ModelTest(run);
-            for (int call = 0; call < CALLS && Check.wrong() == 0; call++) {
-                test.step(call);
+            for (int step = 0; step < CALLS && Check.wrong() == 0; step++) {
+                test.step(step);
             }
         }
         Check.end();
@@ -54,19 +54,24 @@ public final class ModelTest {
         try {
             return "" + call.ask();
         } catch (RuntimeException e) {
-            return "throws." + e.getClass().getSimpleName();
+            return "throws." + e.getClass().getSimpleName() + (Check.isOfTheMachine(e) ? " of the machine" : "");
         }
     }
 
     private void same(String call, Check.Call one, Check.Call other) {
+        // what is told after that many calls is free
+        if (calls == CALLS) {
+            return;
+        }
+        calls++;
         asked = call;
         String got = answer(one);
         String want = answer(other);
         Check.due("run " + run + ": " + asked + " " + got + " for " + want, got.equals(want) ? 1 : 0, 1);
     }
 
-    private void step(int call) {
-        int choice = call < 70 ? below(40) : below(100);
+    private void step(int step) {
+        int choice = step < 70 ? below(40) : below(100);
         if (choice < 6) {
             makeObject();
         } else if (choice < 30) {
@@ -78,7 +83,7 @@ public final class ModelTest {
         } else {
             ask();
         }
-        if (call % 16 == 15) {
+        if (step % 16 == 15) {
             for (int what = 0; what <= 8; what++) {
                 about(what);
             }
