@@ -28,6 +28,8 @@ public final class CallEdgesTest {
         readsOfAllFields();
         readsWorksNothing();
         readsOfWhatIsNotKept();
+        readsOfAFreshOneThatIsNotKept();
+        readsOfAFreshPairThatIsNotKept();
         unlikeUnknown();
         unlikeOfNoCalls();
         unlikeOfAll();
@@ -346,6 +348,53 @@ public final class CallEdgesTest {
         m.uneven(0);
         Check.due("X as it was kept", m.reads(0, 0, 1, 0), 1);
         Check.due("Y as it was kept", m.reads(0, 0, 1, 1), 2);
+    }
+
+    // Terms, 3: A CALL is FRESH (never worked, or a FIELD that it READ was changed since then). Promises 12, 15, 16:
+    // nothing of it is kept.
+
+    /** A of X, and B of X, too, if A is not 0. */
+    private static int bOrNot(MemberScores m) {
+        int x = Make.x(m);
+        return m.expression(15, Make.of(m, 3, x), Make.of(m, 4, x), Make.number(m, 0));
+    }
+
+    private static void readsOfAFreshOneThatIsNotKept() {
+        MemberScores m = Make.objects(THING);
+        Make.rule(m, 0, bOrNot(m));
+        m.score(0);
+        m.set(0, 0, 1);
+        m.full(0);
+        Check.due("full READ B, too", m.reads(0, 0, NONE, 0), 1);
+        m.unlike(0);
+        Check.due("unlike READ B, too", m.reads(0, 0, NONE, 0), 1);
+        Check.due("FRESH still", m.about(4), 1);
+        m.failed(0);
+        Check.due("what is kept READ B, too", m.reads(0, 0, NONE, 0), 3);
+        m.set(0, 0, 0);
+        m.full(0);
+        m.unlike(0);
+        Check.due("they READ A alone", m.reads(0, 0, NONE, 0), 3);
+        m.set(0, 1, 1);
+        Check.due("FRESH by A and B", m.about(4), 1);
+    }
+
+    private static void readsOfAFreshPairThatIsNotKept() {
+        MemberScores m = Make.objects(THING, THING);
+        Make.rule(m, 3, bOrNot(m));
+        m.score(0);
+        m.set(0, 0, 1);
+        m.uneven(0);
+        Check.due("X, with B", m.reads(0, 0, 1, 0), 1);
+        Check.due("Y, as X", m.reads(0, 0, 1, 1), 0);
+        m.set(1, 0, 1);
+        Check.due("Y is not READ", m.about(4), 1);
+        m.mark(0, 0, 1);
+        m.uneven(0);
+        Check.due("X as it was kept", m.reads(0, 0, 1, 0), 3);
+        m.set(1, 0, 2);
+        m.set(1, 1, 2);
+        Check.due("Y is not READ by what is kept", m.about(4), 0);
     }
 
     // Promise 15: How many CALLS of a RULE tell unlike (a MARK, a FAULT), each being worked twice, one time after the
